@@ -1,13 +1,23 @@
-/** Counts the answers that are not the ones that are due, and ends the test by them. */
+import java.util.LinkedHashMap;
+import java.util.Map;
+
+/** Counts the answers that are not the ones that are due, sentence by sentence, and ends the test by them. */
 final class Due {
-    private int looked;
+    private final Map<String, Integer> looked = new LinkedHashMap<>();
+    private String sentence = "";
     private int wrong;
 
+    /** The sentence of the document that the answers from here on are due by. */
+    void sentence(String words) {
+        sentence = words;
+        looked.putIfAbsent(words, 0);
+    }
+
     void is(String call, long got, long want) {
-        looked++;
+        looked.merge(sentence, 1, Integer::sum);
         if (got != want) {
             wrong++;
-            System.out.println(call + " answered " + got + ", due is " + want);
+            System.out.println(call + " answered " + got + ", due is " + want + " by \"" + sentence + "\"");
         }
     }
 
@@ -24,9 +34,17 @@ final class Due {
     }
 
     void finish() {
-        System.out.println(looked + " answers, " + wrong + " of them not as due");
-        // A test that looks at nothing must not pass.
-        if (wrong != 0 || looked == 0) {
+        int answers = 0;
+        for (Map.Entry<String, Integer> one : looked.entrySet()) {
+            answers += one.getValue();
+            // A test that looks at nothing must not pass.
+            if (one.getValue() == 0) {
+                wrong++;
+                System.out.println("nothing was looked at for \"" + one.getKey() + "\"");
+            }
+        }
+        System.out.println(answers + " answers for " + looked.size() + " sentences, " + wrong + " wrong");
+        if (wrong != 0 || answers == 0) {
             System.exit(1);
         }
     }

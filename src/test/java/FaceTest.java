@@ -32,6 +32,7 @@ public final class FaceTest {
 
     public static void main(String[] args) {
         Due due = new Due();
+        due.sentence("The public face");
         due.is("NONE", EnclaveGuards.NONE, 1L << 40);
         due.is("FAULT", EnclaveGuards.FAULT, (1L << 40) + 1);
         due.holds("the class is public and final", Modifier.isPublic(EnclaveGuards.class.getModifiers())

@@ -30,6 +30,7 @@ public final class ModelTest {
 
     public static void main(String[] args) {
         ModelTest test = new ModelTest();
+        test.due.sentence("An object is used for at most 512 calls after it has been made");
         for (int run = 0; run < RUNS && !test.due.anyWrong(); run++) {
             test.oneRun();
         }

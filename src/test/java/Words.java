@@ -1,7 +1,5 @@
 /** The words that an enclave's program is made of, and the document's sums over ints, for the tests. */
 final class Words {
-    static final int[] WRONG_NUMBERS = {-1, -2, Integer.MIN_VALUE, Integer.MAX_VALUE, 1000};
-
     private Words() {
     }
 
